@@ -188,11 +188,11 @@ public final class BoxVault {
         if (!orders.has(order)) {
             throw new IndexOutOfBoundsException("there was no such order");
         }
-        if (!orders.holds[order]) {
+        if (!orders.isInForce(order)) {
             throw new IllegalStateException("the order does not hold any more");
         }
-        boolean bound = orders.bindingOn(orders.box[order]) == order;
-        orders.holds[order] = false;
+        boolean bound = orders.isBinding(order);
+        orders.end(order);
         return bound;
     }
 
@@ -374,7 +374,6 @@ public final class BoxVault {
             state = RENTED;
             holder = person;
             paidUpTo = lastPaidDay;
-            unpaidDays = 0;
             entries = 0;
             willSought = false;
         }
@@ -451,6 +450,20 @@ public final class BoxVault {
             holds[order] = true;
             count++;
             return order;
+        }
+
+        private boolean isInForce(int order) {
+            return has(order) && holds[order];
+        }
+
+        private boolean isBinding(int order) {
+            return has(order) && bindingOn(box[order]) == order;
+        }
+
+        private void end(int order) {
+            if (has(order)) {
+                holds[order] = false;
+            }
         }
 
         private int kindOf(int order) {
